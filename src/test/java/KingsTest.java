@@ -13,6 +13,7 @@ public final class KingsTest {
         promise6Pass();
         promise6PassErrors();
         arrivals();
+        precedence();
         hallAndTable();
         rounds();
         anger();
@@ -231,6 +232,28 @@ public final class KingsTest {
         x.pass(1);
         DUE.is("at the foot: seat(4)", x.seat(4), 4);
         DUE.is("at the foot: king(4, 4)", x.king(4, 4), 4);
+    }
+
+    private static void precedence() {
+        KingsBanquet x = new KingsBanquet();
+        int[][] kings = {{5, 120}, {6, 0}, {1, 120}, {9, 0}, {5, 119}, {2, 0}, {6, 0}, {5, 120}, {8, 120}};
+        int[] order = {3, 8, 1, 6, 0, 7, 4, 5, 2};
+        x.set(0, 12);
+        for (int[] king : kings) {
+            x.announce(king[0], king[1], 0);
+        }
+        x.pass(1);
+        for (int seat = 0; seat < order.length; seat++) {
+            DUE.is("precedence: seat(" + seat + ")", x.seat(seat), order[seat]);
+        }
+        KingsBanquet y = new KingsBanquet();
+        for (int king = 0; king < 24; king++) {
+            y.announce(5, king == 0 ? 49 : 50, 0);
+        }
+        y.pass(1);
+        DUE.is("an older one of a high number: seat(0)", y.seat(0), 1);
+        DUE.is("the youngest one is the last one: waits(15)", y.waits(15), 0);
+        DUE.is("before him the highest number: waits(14)", y.waits(14), 23);
     }
 
     private static void hallAndTable() {

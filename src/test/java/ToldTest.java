@@ -17,6 +17,8 @@ public final class ToldTest {
         promise24NextArrival();
         promise25Count();
         nothingToldChangesAnything();
+        whatIsToldAfterOtherCalls();
+        actsAfterWhatWasTold();
         DUE.end();
     }
 
@@ -358,6 +360,60 @@ public final class ToldTest {
         }
         for (int seat = 0; seat < 4; seat++) {
             DUE.is("nothing changed: seat(" + seat + ")", x.seat(seat), seat);
+        }
+    }
+
+    private static void whatIsToldAfterOtherCalls() {
+        KingsBanquet x = table(1, 2, 3, 4);
+        x.set(3, 1);
+        x.set(2, 0);
+        DUE.is("ifRounds(1)", x.ifRounds(1), 3);
+        DUE.is("ifRounds(1) after ifRounds()", x.ifRounds(1), 3);
+        DUE.is("changesNeeded() after ifRounds()", x.changesNeeded(), 6);
+        DUE.is("changesNeeded() after itself", x.changesNeeded(), 6);
+        DUE.is("ifRounds(1) after changesNeeded()", x.ifRounds(1), 3);
+        DUE.is("dueIn(3) after ifRounds()", x.dueIn(3), KingsBanquet.NONE);
+        x.set(2, 6);
+        DUE.is("dueIn(3)", x.dueIn(3), 1);
+        DUE.is("dueIn(3) after itself", x.dueIn(3), 1);
+        DUE.is("changesNeeded() after dueIn()", x.changesNeeded(), 6);
+        x.undo();
+        DUE.is("ifRounds(1) after undo()", x.ifRounds(1), 3);
+    }
+
+    private static void actsAfterWhatWasTold() {
+        for (int act = 0; act < 6; act++) {
+            KingsBanquet x = table(1, 2, 3, 4);
+            x.set(3, 1);
+            x.set(2, 0);
+            x.ifRounds(3);
+            int answer = 0;
+            switch (act) {
+                case 0:
+                    answer = x.announce(5, 5, 50) - 4;
+                    break;
+                case 1:
+                    x.announce(5, 5, 50);
+                    x.ifRounds(3);
+                    answer = x.leave(4);
+                    break;
+                case 2:
+                    answer = x.send(2) - 3;
+                    break;
+                case 3:
+                    answer = x.set(1, 30) - 60;
+                    break;
+                case 4:
+                    answer = x.pass(5);
+                    break;
+                default:
+                    x.type('.');
+                    x.type('5');
+                    answer = x.perform() - 1;
+            }
+            DUE.is("act " + act + " after ifRounds()", answer, 0);
+            DUE.is("act " + act + " after ifRounds(): count(4)", x.count(4), 4);
+            DUE.is("act " + act + " after ifRounds(): count(7)", x.count(7), 0);
         }
     }
 }
