@@ -249,13 +249,7 @@ final class Run {
     }
 
     private static List<Call> state() {
-        List<Call> all = new ArrayList<>();
-        for (int what = 0; what <= 14; what++) {
-            all.add(Call.of("count(" + what + ")"));
-        }
-        for (int seat = 0; seat < 12; seat++) {
-            all.add(Call.of("seat(" + seat + ")"));
-        }
+        List<Call> all = accountsAndSeats();
         for (int king = 0; king < 24; king++) {
             all.add(Call.of("waits(" + king + ")"));
             for (int what = 0; what <= 8; what++) {
@@ -266,6 +260,13 @@ final class Run {
     }
 
     private static List<Call> brief() {
+        List<Call> all = accountsAndSeats();
+        all.add(Call.of("waits(0)"));
+        all.add(Call.of("nextArrival()"));
+        return all;
+    }
+
+    private static List<Call> accountsAndSeats() {
         List<Call> all = new ArrayList<>();
         for (int what = 0; what <= 14; what++) {
             all.add(Call.of("count(" + what + ")"));
@@ -273,8 +274,6 @@ final class Run {
         for (int seat = 0; seat < 12; seat++) {
             all.add(Call.of("seat(" + seat + ")"));
         }
-        all.add(Call.of("waits(0)"));
-        all.add(Call.of("nextArrival()"));
         return all;
     }
 }
