@@ -1,6 +1,7 @@
 /** Promises 11 to 13: undo and the snapshot; and which calls are acts. */
 public final class HistoryTest {
     private static final Due DUE = new Due("HistoryTest");
+    private static final int MOST_KINGS_HERE = 7;
 
     public static void main(String[] args) {
         promise11Undo();
@@ -71,13 +72,14 @@ public final class HistoryTest {
         same("leave", before, told(x));
     }
 
+    /** No more kings than a run here has, so that an object stays within its 512 calls. */
     private static int[] told(KingsBanquet x) {
-        int[] all = new int[500];
+        int[] all = new int[15 + MOST_KINGS_HERE * 11];
         int at = 0;
         for (int what = 0; what <= 14; what++) {
             all[at++] = x.count(what);
         }
-        for (int king = 0; king < 24; king++) {
+        for (int king = 0; king < MOST_KINGS_HERE; king++) {
             for (int what = 0; what <= 8; what++) {
                 all[at++] = x.king(king, what);
             }

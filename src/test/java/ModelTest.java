@@ -2,8 +2,12 @@ import java.util.Random;
 
 /** Runs of calls from fixed seeds, in which the class and the model answer alike. */
 public final class ModelTest {
-    private static final int RUNS = 400;
-    private static final int CALLS = 250;
+    private static final int RUNS = 15000;
+    private static final int QUESTIONS = 3;
+    /** The document promises nothing behind the 512th call of an object. */
+    private static final int MOST_CALLS = 512;
+    /** More than an act with its text, its questions, and adding up take. */
+    private static final int KEPT_FREE = 180;
     private static final String SIGNS = "kkll..;@0123456789x";
     private static final Due DUE = new Due("ModelTest");
 
@@ -13,39 +17,47 @@ public final class ModelTest {
     private final int run;
     private final int lastCrown;
     private final int lastAge;
+    /** The first ones only announce kings and set settings; in some runs more kings than there is room for. */
+    private final int firstActs;
+    private int calls;
 
     private ModelTest(int run) {
         this.run = run;
         random = new Random(run);
         lastCrown = 1 + random.nextInt(9);
         lastAge = random.nextInt(4) == 0 ? 120 : random.nextInt(3);
+        firstActs = random.nextInt(4) == 0 ? 55 : 12;
     }
 
     public static void main(String[] args) {
         for (int run = 0; run < RUNS && DUE.wrong() == 0; run++) {
             new ModelTest(run).run();
         }
-        accountsAddUp();
         DUE.end();
     }
 
     private void run() {
-        for (int call = 0; call < CALLS && DUE.wrong() == 0; call++) {
-            act(call);
-            compare();
+        for (int act = 0; calls < MOST_CALLS - KEPT_FREE && DUE.wrong() == 0; act++) {
+            act(act);
+            for (int question = 0; question < QUESTIONS; question++) {
+                ask();
+            }
         }
+        accountsAddUp();
+        DUE.is("run " + run + ": at most 512 calls", calls <= MOST_CALLS ? 1 : 0, 1);
     }
 
     private void same(String call, int got, int want) {
-        DUE.is("run " + run + ": " + call, got, want);
+        calls++;
+        DUE.is("run " + run + ", call " + calls + ": " + call, got, want);
     }
 
     private int below(int bound) {
         return random.nextInt(bound);
     }
 
-    private void act(int call) {
-        int kind = call < 12 ? below(2) : below(13);
+    private void act(int act) {
+        int kind = act < firstActs ? below(2) : below(13);
         switch (kind) {
             case 0:
                 announce();
@@ -138,50 +150,94 @@ public final class ModelTest {
         return text.toString();
     }
 
-    private void compare() {
-        for (int what = -1; what <= 17; what++) {
-            same("count(" + what + ")", class1.count(what), model.count(what));
-        }
-        for (int king = -1; king <= 24; king++) {
-            for (int what = -1; what <= 9; what++) {
-                same("king(" + king + ", " + what + ")", class1.king(king, what), model.king(king, what));
-            }
-            same("dueIn(" + king + ")", class1.dueIn(king), model.dueIn(king));
-            same("seat(" + king + ")", class1.seat(king), model.seat(king));
-            same("waits(" + king + ")", class1.waits(king), model.waits(king));
-            int other = below(26) - 1;
-            same("reason(" + king + ", " + other + ")", class1.reason(king, other), model.reason(king, other));
-        }
+    private void ask() {
+        int seat = below(14) - 1;
+        int rank = below(below(4) == 0 ? 25 : 4) - 1;
+        int rounds = below(33) - 1;
         int crown = below(11);
         int age = below(4) == 0 ? below(123) - 1 : below(lastAge + 1);
-        int rounds = below(32);
-        same("dueSeat(" + crown + ", " + age + ")", class1.dueSeat(crown, age), model.dueSeat(crown, age));
-        same("wrongPairs()", class1.wrongPairs(), model.wrongPairs());
-        same("changesNeeded()", class1.changesNeeded(), model.changesNeeded());
-        same("mostSlighted()", class1.mostSlighted(), model.mostSlighted());
-        same("ifRounds(" + rounds + ")", class1.ifRounds(rounds), model.ifRounds(rounds));
-        same("nextArrival()", class1.nextArrival(), model.nextArrival());
+        switch (below(16)) {
+            case 0, 1:
+                int which = below(19) - 1;
+                same("count(" + which + ")", class1.count(which), model.count(which));
+                break;
+            case 2, 3, 4:
+                int king = someKing();
+                int what = below(11) - 1;
+                same("king(" + king + ", " + what + ")", class1.king(king, what), model.king(king, what));
+                break;
+            case 5, 6:
+                king = someKing();
+                same("dueIn(" + king + ")", class1.dueIn(king), model.dueIn(king));
+                break;
+            case 7:
+                king = someKing();
+                int other = someKing();
+                same("reason(" + king + ", " + other + ")", class1.reason(king, other), model.reason(king, other));
+                break;
+            case 8:
+                same("seat(" + seat + ")", class1.seat(seat), model.seat(seat));
+                break;
+            case 9:
+                same("waits(" + rank + ")", class1.waits(rank), model.waits(rank));
+                break;
+            case 10:
+                same("dueSeat(" + crown + ", " + age + ")", class1.dueSeat(crown, age), model.dueSeat(crown, age));
+                break;
+            case 11:
+                same("ifRounds(" + rounds + ")", class1.ifRounds(rounds), model.ifRounds(rounds));
+                break;
+            default:
+                askOfAll();
+        }
+    }
+
+    private void askOfAll() {
+        switch (below(4)) {
+            case 0:
+                same("wrongPairs()", class1.wrongPairs(), model.wrongPairs());
+                break;
+            case 1:
+                same("changesNeeded()", class1.changesNeeded(), model.changesNeeded());
+                break;
+            case 2:
+                same("mostSlighted()", class1.mostSlighted(), model.mostSlighted());
+                break;
+            default:
+                same("nextArrival()", class1.nextArrival(), model.nextArrival());
+        }
+    }
+
+    /** Mostly one of those who sit; sometimes one who was never announced. */
+    private int someKing() {
+        int sitting = model.count(4);
+        return sitting > 0 && below(3) > 0 ? model.seat(below(sitting)) : below(model.count(1) + 2) - 1;
+    }
+
+    private int told(int answer) {
+        calls++;
+        return answer;
     }
 
     /** The accounts add up, whatever the model says. */
-    private static void accountsAddUp() {
-        ModelTest test = new ModelTest(RUNS);
-        for (int call = 0; call < CALLS; call++) {
-            test.act(call);
-            KingsBanquet x = test.class1;
-            int toasts = 0;
-            int slights = 0;
-            int angry = 0;
-            for (int king = 0; king < x.count(1); king++) {
-                toasts += x.king(king, 6);
-                slights += x.king(king, 7);
-                angry += x.king(king, 8);
-            }
-            DUE.is("the kings", x.count(2) + x.count(3) + x.count(4) + x.count(5), x.count(1));
-            DUE.is("the toasts", x.count(8), toasts);
-            DUE.is("the slights", x.count(9), slights);
-            DUE.is("the angry ones", x.count(6), angry);
-            DUE.is("the pairs in two ways", x.wrongPairs(), x.changesNeeded());
+    private void accountsAddUp() {
+        int kings = told(class1.count(1));
+        int doing = 0;
+        for (int what = 2; what <= 5; what++) {
+            doing += told(class1.count(what));
         }
+        int toasts = 0;
+        int slights = 0;
+        int angry = 0;
+        for (int king = 0; king < kings; king++) {
+            toasts += told(class1.king(king, 6));
+            slights += told(class1.king(king, 7));
+            angry += told(class1.king(king, 8));
+        }
+        DUE.is("the kings", doing, kings);
+        DUE.is("the toasts", told(class1.count(8)), toasts);
+        DUE.is("the slights", told(class1.count(9)), slights);
+        DUE.is("the angry ones", told(class1.count(6)), angry);
+        DUE.is("the pairs in two ways", told(class1.wrongPairs()), told(class1.changesNeeded()));
     }
 }

@@ -15,9 +15,7 @@ public final class NeverThrowsTest {
     }
 
     private static void afterNothing() {
-        KingsBanquet x = new KingsBanquet();
-        allCalls(x);
-        DUE.is("after all calls on a new object", x.count(1) <= 24 ? 1 : 0, 1);
+        allCalls(new KingsBanquet());
     }
 
     private static void afterKings() {
@@ -34,9 +32,9 @@ public final class NeverThrowsTest {
         for (int time = 0; time < 5; time++) {
             allCalls(x);
         }
-        DUE.is("after all calls", x.count(1), x.count(2) + x.count(3) + x.count(4) + x.count(5));
     }
 
+    /** More calls than an object has to answer rightly, so that their answers are free; but none may throw. */
     private static void allCalls(KingsBanquet x) {
         for (int first : NUMBERS) {
             for (int second : NUMBERS) {

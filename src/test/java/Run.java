@@ -32,9 +32,14 @@ final class Run {
             String[] numbers = inside.isEmpty() ? new String[0] : inside.split(", *");
             Object[] arguments = new Object[numbers.length];
             for (int at = 0; at < numbers.length; at++) {
-                arguments[at] = Integer.parseInt(numbers[at]);
+                arguments[at] = argument(numbers[at]);
             }
             return new Call(told, method, arguments);
+        }
+
+        /** A number, or a character between two quotes. */
+        private static Object argument(String told) {
+            return told.charAt(0) == '\'' ? (Object) told.charAt(1) : (Object) Integer.parseInt(told);
         }
 
         static Call typing(char sign) {
